@@ -135,6 +135,10 @@ public final class CastersTest {
         Due.due("mark(4, 3)", x.mark(4, 3), 2);
         Due.due("thumb beyond n", x.thumb(10, 3, false, 10, 40), 5);
         Due.due("mark(5, 3)", x.mark(5, 3), 1);
+        Due.due("thumb up to n", x.thumb(10, 2, false, 8, 10), 6);
+        Due.due("mark(6, 3)", x.mark(6, 3), 2);
+        // 10 at 1, by 2: nothing of 1, 8 of 9; at 8, the thumb's first place, it would be 6.
+        Due.due("mark(6, 1)", x.mark(6, 1), 8);
         int[][] unlike = {{0, 1}, {0, 2}, {0, 3}, {1, 2}, {1, 3}, {2, 1}, {2, 3}, {3, 2}};
         for (int[] u : unlike) {
             Due.finding("mark(" + u[0] + ", " + u[1] + ")", x, x.mark(u[0], u[1]), 3);
@@ -143,7 +147,7 @@ public final class CastersTest {
         Due.due("mark(0, 0)", x.mark(0, 0), BAD);
         Due.due("mark(1, 4)", x.mark(1, 4), BAD);
         Due.due("mark(1, -1)", x.mark(1, -1), BAD);
-        Due.due("mark(6, 1)", x.mark(6, 1), BAD);
+        Due.due("mark(7, 1)", x.mark(7, 1), BAD);
         Due.due("mark(-1, 1)", x.mark(-1, 1), BAD);
     }
 

@@ -52,6 +52,7 @@ public final class FiguresTest {
         x.caster(true);
         x.caster(false);
         x.stalks(4, 2, true);
+        x.stalks(50, 4, false);
         Due.due("draw(0, 0, 12345)", x.draw(0, 0, 12345), 1);
         Due.due("its lowest line", x.get(0, 0), 9);
         Due.due("its number", x.number(0), 1);
@@ -68,13 +69,17 @@ public final class FiguresTest {
         }
         Due.due("draw(7, 1, 4711)", x.draw(7, 1, 4711), old);
         lines("draw(7, 1, 4711)", x, 7, want);
+        Due.due("draw(6, 1, 11)", x.draw(6, 1, 11), 3);
+        lines("draw(6, 1, 11)", x, 6, 6, 7, 9, 6, 8, 7);
         long before = x.digest();
-        Due.due("draw(7, 3, 1)", x.draw(7, 3, 1), STATE);
+        Due.due("draw(7, 3, 1), zeros", x.draw(7, 3, 1), STATE);
+        // The lines would be 9, 10, 7, 8, 9, 9.
+        Due.due("draw(7, 4, 1), one is 10", x.draw(7, 4, 1), STATE);
         Due.due("digest() behind STATE", x.digest(), before);
         Due.due("finding() behind STATE", x.finding(), 0);
         Due.due("draw(8, 3, 1), BAD ahead", x.draw(8, 3, 1), BAD);
         Due.due("draw(-1, 0, 1)", x.draw(-1, 0, 1), BAD);
-        Due.due("draw(0, 4, 1)", x.draw(0, 4, 1), BAD);
+        Due.due("draw(0, 5, 1)", x.draw(0, 5, 1), BAD);
         Due.due("draw(0, -1, 1)", x.draw(0, -1, 1), BAD);
     }
 

@@ -346,6 +346,14 @@ public final class RowsTest {
         // Of 8 stalks 27 of 35 lines are 0 (7 of 8 with the thumb); of 7 always 4 are left, then 2 at most, then 0.
         Due.due("lost(1, 5)", x.lost(1, 5), 1);
         Due.due("lost(1, 4)", x.lost(1, 4), 1);
+        // Cast with 12 stalks, with 11, by one that had 20: 8 lost at most.
+        x.stalks(20, 2, true);
+        x.stalks(12, 2, true);
+        x.stalks(11, 2, true);
+        x.record(2, 7, 0, 64);
+        Due.due("lost(2, 6), cast with 12", x.lost(2, 6), 8);
+        x.record(2, 8, 0, 64);
+        Due.due("lost(2, 6), cast with 11", x.lost(2, 6), 8);
         Due.finding("lost, coins", x, x.lost(1, 1), 3);
         Due.finding("lost, kind 0", x, x.lost(1, 3), 3);
         fill(x, 2, 31);
@@ -353,7 +361,7 @@ public final class RowsTest {
         Due.finding("lost, none counts", x, x.lost(2, 0), 4);
         Due.finding("lost, NOTHING ahead of UNLIKE", x, x.lost(3, 1), 1);
         Due.due("lost(4, 0)", x.lost(4, 0), BAD);
-        Due.due("lost(0, 6)", x.lost(0, 6), BAD);
+        Due.due("lost(0, 9)", x.lost(0, 9), BAD);
         Due.due("lost(3, -1), BAD ahead", x.lost(3, -1), BAD);
     }
 
