@@ -642,7 +642,9 @@ public final class StalkRoom {
         void beginBundle(int n) {
             begin(1);
             Arrays.fill(heaps, 0);
-            heaps[n] = 1;
+            if (n >= 0 && n <= MOST_STALKS) {
+                heaps[n] = 1;
+            }
         }
 
         /** The parts of all lines: their odds in millionths, cut. */
@@ -779,7 +781,7 @@ public final class StalkRoom {
             }
             for (int left = 0; left <= MOST_STALKS; left++) {
                 int line = lineOf(left);
-                if (line <= LAST_LINE) {
+                if (line >= 0 && line <= LAST_LINE) {
                     odds.weights[line] += odds.heaps[left];
                 }
             }
@@ -817,7 +819,10 @@ public final class StalkRoom {
             long each = places < 1 ? 0 : weight / places;
             int first = firstPlace(n);
             for (int a = first; a < first + places; a++) {
-                into[leftOf(n, a)] += each;
+                int left = leftOf(n, a);
+                if (left >= 0 && left < into.length) {
+                    into[left] += each;
+                }
             }
         }
 
