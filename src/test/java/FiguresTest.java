@@ -12,12 +12,6 @@ public final class FiguresTest {
         Due.end();
     }
 
-    private static void lay(StalkRoom x, int f, int... lines) {
-        for (int i = 0; i < 6; i++) {
-            x.set(f, i, lines[i]);
-        }
-    }
-
     private static void lines(String call, StalkRoom x, int f, int... want) {
         for (int i = 0; i < 6; i++) {
             Due.due(call + " line " + i, x.get(f, i), want[i]);
@@ -85,10 +79,10 @@ public final class FiguresTest {
 
     private static void promise15Number() {
         StalkRoom x = new StalkRoom();
-        lay(x, 3, 7, 6, 9, 8, 8, 7);
+        Fixture.lines(x, 3, 7, 6, 9, 8, 8, 7);
         Due.due("number(3)", x.number(3), 1 + 4 + 32);
         Due.due("number(2)", x.number(2), 0);
-        lay(x, 2, 9, 9, 9, 7, 7, 7);
+        Fixture.lines(x, 2, 9, 9, 9, 7, 7, 7);
         Due.due("number(2), all whole", x.number(2), 63);
         Due.due("number(8)", x.number(8), BAD);
         Due.due("number(-1)", x.number(-1), BAD);
@@ -96,7 +90,7 @@ public final class FiguresTest {
 
     private static void promise16Act() {
         StalkRoom x = new StalkRoom();
-        lay(x, 0, 6, 9, 7, 8, 8, 9);
+        Fixture.lines(x, 0, 6, 9, 7, 8, 8, 9);
         Due.due("changed", x.act(0, 0, 1), 1 + 4);
         lines("changed", x, 1, 7, 8, 7, 8, 8, 8);
         Due.due("turned", x.act(0, 1, 2), 1 + 8 + 16);
@@ -108,7 +102,7 @@ public final class FiguresTest {
         lines("the figure itself", x, 0, 6, 9, 7, 8, 8, 9);
         Due.due("turned, to itself", x.act(0, 1, 0), 1 + 8 + 16);
         lines("turned, to itself", x, 0, 9, 8, 8, 7, 9, 6);
-        lay(x, 5, 6, 7, 8, 9, 6, 7);
+        Fixture.lines(x, 5, 6, 7, 8, 9, 6, 7);
         Due.due("nested, to itself", x.act(5, 3, 5), 1 + 4 + 16);
         lines("nested, to itself", x, 5, 7, 8, 9, 8, 9, 6);
         long before = x.digest();

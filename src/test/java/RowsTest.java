@@ -20,21 +20,6 @@ public final class RowsTest {
         Due.end();
     }
 
-    private static void fill(StalkRoom x, int r, int... bytes) {
-        x.row(r, bytes.length);
-        for (int i = 0; i < bytes.length; i++) {
-            x.lay(r, i, bytes[i]);
-        }
-    }
-
-    /** Bytes are read by lay(), which tells what they were, and laid again. */
-    private static void bytes(String call, StalkRoom x, int r, int... want) {
-        for (int i = 0; i < want.length; i++) {
-            Due.due(call + " byte " + i, x.lay(r, i, want[i]), want[i] + 1000);
-        }
-        Due.due(call + " has no more", x.lay(r, want.length, 0), StalkRoom.FINDING);
-    }
-
     private static int turned(int x) {
         int y = 0;
         for (int i = 0; i < 6; i++) {
@@ -48,11 +33,11 @@ public final class RowsTest {
         Due.due("row(0, 0)", x.row(0, 0), 0);
         Due.due("row(3, 64)", x.row(3, 64), 64);
         Due.due("count(1)", x.count(1), 2);
-        fill(x, 1, 5, 6, 7);
+        Fixture.fill(x, 1, 5, 6, 7);
         Due.due("row(1, 2) again", x.row(1, 2), 2);
-        bytes("row(1, 2)", x, 1, 0, 0);
+        Fixture.bytes("row(1, 2)", x, 1, 0, 0);
         Due.due("row(1, 3) again", x.row(1, 3), 3);
-        bytes("row(1, 3)", x, 1, 0, 0, 0);
+        Fixture.bytes("row(1, 3)", x, 1, 0, 0, 0);
         Due.due("row(0, 65)", x.row(0, 65), BAD);
         Due.due("row(4, 1)", x.row(4, 1), BAD);
         Due.due("row(-1, 1)", x.row(-1, 1), BAD);
@@ -60,7 +45,7 @@ public final class RowsTest {
         Due.finding("row(1, -1)", x, x.row(1, -1), 5);
         Due.finding("row(2, MIN)", x, x.row(2, MIN), 5);
         Due.due("count(1) behind SIZE", x.count(1), 3);
-        bytes("row 1 behind SIZE", x, 1, 0, 0, 0);
+        Fixture.bytes("row 1 behind SIZE", x, 1, 0, 0, 0);
     }
 
     private static void promise20Lay() {
@@ -89,22 +74,22 @@ public final class RowsTest {
         Due.finding("misfits(2, 0), torn", x, x.misfits(2, 0), 1);
         Due.due("tear(4)", x.tear(4), BAD);
         Due.due("tear(-1)", x.tear(-1), BAD);
-        fill(x, 1, 3, 4);
+        Fixture.fill(x, 1, 3, 4);
         x.tear(1);
         x.row(1, 2);
-        bytes("row behind tear", x, 1, 0, 0);
+        Fixture.bytes("row behind tear", x, 1, 0, 0);
     }
 
     private static void promise22Copy() {
         StalkRoom x = new StalkRoom();
-        fill(x, 0, 1, 2, 3, 4, 5);
-        fill(x, 1, 9, 9, 9);
+        Fixture.fill(x, 0, 1, 2, 3, 4, 5);
+        Fixture.fill(x, 1, 9, 9, 9);
         Due.due("copy(0, 2, 1, 0, 3)", x.copy(0, 2, 1, 0, 3), 1);
-        bytes("copy", x, 1, 3, 4, 5);
+        Fixture.bytes("copy", x, 1, 3, 4, 5);
         Due.due("copy, forward on itself", x.copy(0, 0, 0, 1, 4), 1);
-        bytes("copy, forward on itself", x, 0, 1, 1, 2, 3, 4);
+        Fixture.bytes("copy, forward on itself", x, 0, 1, 1, 2, 3, 4);
         Due.due("copy, back on itself", x.copy(0, 2, 0, 0, 3), 1);
-        bytes("copy, back on itself", x, 0, 2, 3, 4, 3, 4);
+        Fixture.bytes("copy, back on itself", x, 0, 2, 3, 4, 3, 4);
         Due.due("copy of none at the ends", x.copy(0, 5, 1, 3, 0), 1);
         Due.finding("copy of none beyond the end", x, x.copy(0, 6, 1, 0, 0), 2);
         Due.finding("copy, too many from", x, x.copy(1, 1, 0, 0, 3), 2);
@@ -121,8 +106,8 @@ public final class RowsTest {
         Due.due("copy(4, 0, 0, 0, -1), BAD ahead", x.copy(4, 0, 0, 0, -1), BAD);
         Due.due("copy(0, 0, 4, 0, 0)", x.copy(0, 0, 4, 0, 0), BAD);
         Due.due("copy(0, 0, -1, 0, 0)", x.copy(0, 0, -1, 0, 0), BAD);
-        bytes("row 0 behind what was refused", x, 0, 2, 3, 4, 3, 4);
-        bytes("row 1 behind what was refused", x, 1, 3, 4, 5);
+        Fixture.bytes("row 0 behind what was refused", x, 0, 2, 3, 4, 3, 4);
+        Fixture.bytes("row 1 behind what was refused", x, 1, 3, 4, 5);
     }
 
     private static void promise23Misfits() {
@@ -143,7 +128,7 @@ public final class RowsTest {
         Due.due("leaves gone", x.misfits(0, 0), 0);
         x.lay(0, 63, 0);
         Due.due("one leaf astray", x.misfits(0, 0), 1);
-        fill(x, 2, 1, 32, 33, 30, 33, 33, 7, 56, 5);
+        Fixture.fill(x, 2, 1, 32, 33, 30, 33, 33, 7, 56, 5);
         Due.due("pairs, 33 beside itself", x.misfits(2, 2), 1);
         x.lay(2, 4, 64);
         Due.due("pairs, the first one gone", x.misfits(2, 2), 0);
@@ -163,26 +148,26 @@ public final class RowsTest {
 
     private static void promise24Follows() {
         StalkRoom x = new StalkRoom();
-        fill(x, 0, 0, 1, 2, 3, 5);
+        Fixture.fill(x, 0, 0, 1, 2, 3, 5);
         Due.due("follows(0)", x.follows(0), 0);
         Due.due("asked()", x.asked(), 1);
-        fill(x, 1, 0, 32, 16, 48, 8);
+        Fixture.fill(x, 1, 0, 32, 16, 48, 8);
         Due.due("follows(1)", x.follows(1), 1);
         Due.due("asked()", x.asked(), 0);
-        fill(x, 2, 1, 32, 7, 56, 3, 3);
+        Fixture.fill(x, 2, 1, 32, 7, 56, 3, 3);
         Due.due("follows(2)", x.follows(2), 2);
         Due.due("asked()", x.asked(), 1);
-        fill(x, 3, 64, 64, 64);
+        Fixture.fill(x, 3, 64, 64, 64);
         Due.due("follows, all alike", x.follows(3), 0);
         Due.due("asked()", x.asked(), 0);
         // 0 and 32: back has none, pairs one (0 beside 32), by count one.
-        fill(x, 3, 0, 32);
+        Fixture.fill(x, 3, 0, 32);
         Due.due("follows, back", x.follows(3), 1);
         // 1 and 32: by count two, back one, pairs none.
-        fill(x, 3, 1, 32);
+        Fixture.fill(x, 3, 1, 32);
         Due.due("follows, pairs", x.follows(3), 2);
         // 5: by count and back one each, pairs none; 5 and 6: two, two, one.
-        fill(x, 3, 5, 6);
+        Fixture.fill(x, 3, 5, 6);
         Due.due("follows, fewest", x.follows(3), 2);
         Due.due("asked()", x.asked(), 1);
         x.tear(3);
@@ -194,7 +179,7 @@ public final class RowsTest {
 
     private static void promise25Lacks() {
         StalkRoom x = new StalkRoom();
-        fill(x, 0, 0, 63, 64, -1, 5, 5);
+        Fixture.fill(x, 0, 0, 63, 64, -1, 5, 5);
         Due.due("lacks(0)", x.lacks(0), 61);
         Due.due("asked()", x.asked(), ~(1L | 1L << 63 | 1L << 5));
         x.row(1, 0);
@@ -213,36 +198,36 @@ public final class RowsTest {
 
     private static void promise26Swapped() {
         StalkRoom x = new StalkRoom();
-        fill(x, 0, 0, 1, 5, 3, 4, 2);
+        Fixture.fill(x, 0, 0, 1, 5, 3, 4, 2);
         Due.due("swapped by count", x.swapped(0, 0), 205);
-        bytes("the list stays", x, 0, 0, 1, 5, 3, 4, 2);
+        Fixture.bytes("the list stays", x, 0, 0, 1, 5, 3, 4, 2);
         x.lay(0, 1, 64);
         Due.due("swapped though a leaf is gone", x.swapped(0, 0), 205);
         x.lay(0, 3, 4);
         Due.due("swapped, three astray", x.swapped(0, 0), NONE);
-        fill(x, 0, 4, 1, 2, 3, 0);
+        Fixture.fill(x, 0, 4, 1, 2, 3, 0);
         Due.due("swapped, the first leaf", x.swapped(0, 0), 4);
-        fill(x, 0, 0, 1, 2);
+        Fixture.fill(x, 0, 0, 1, 2);
         Due.due("swapped, none is due", x.swapped(0, 0), 0);
         Due.due("swapped back", x.swapped(0, 1), NONE);
-        fill(x, 0, 0, 16, 32, 48);
+        Fixture.fill(x, 0, 0, 16, 32, 48);
         Due.due("swapped back", x.swapped(0, 1), 102);
         // A gone leaf keeps its place in the list, so a leaf may change places with it.
-        fill(x, 0, 0, 3, 2, 64);
+        Fixture.fill(x, 0, 0, 3, 2, 64);
         Due.due("swapped with a gone leaf", x.swapped(0, 0), 103);
         // 1 56 | 7 32: 0 and 2 make 7 56 | 1 32.
-        fill(x, 0, 1, 56, 7, 32);
+        Fixture.fill(x, 0, 1, 56, 7, 32);
         Due.due("swapped pairs", x.swapped(0, 2), 2);
         // 1 32 | 33 7 | 56 30: the first pair stays, 33 30 or 56 7.
-        fill(x, 0, 1, 32, 33, 7, 56, 30);
+        Fixture.fill(x, 0, 1, 32, 33, 7, 56, 30);
         Due.due("swapped pairs, behind one that fits", x.swapped(0, 2), 204);
         // 3 3 | 48: the last leaf has no other one.
-        fill(x, 0, 3, 3, 48);
+        Fixture.fill(x, 0, 3, 3, 48);
         Due.due("swapped pairs with the last leaf", x.swapped(0, 2), 2);
-        fill(x, 0, 33, 33);
+        Fixture.fill(x, 0, 33, 33);
         Due.due("swapped pairs, none", x.swapped(0, 2), NONE);
         // 8 62: 62 is not 8 turned (4), nor is 8 what 62 turned (31) is.
-        fill(x, 0, 8, 62);
+        Fixture.fill(x, 0, 8, 62);
         Due.due("swapped pairs, none", x.swapped(0, 2), NONE);
         x.row(1, 0);
         Due.due("swapped, no leaves", x.swapped(1, 2), 0);
@@ -258,7 +243,7 @@ public final class RowsTest {
         x.caster(true);
         x.stalks(60, 2, false);
         Due.due("record(0, 0, 1, 3)", x.record(0, 0, 1, 3), 3);
-        bytes("record of sevens", x, 0, 7, 7, 7);
+        Fixture.bytes("record of sevens", x, 0, 7, 7, 7);
         int[] ofSide = {6, 7, 7, 7, 8, 8, 8, 9};
         int[] want = new int[64];
         long s = -99;
@@ -267,11 +252,11 @@ public final class RowsTest {
             want[i] = ofSide[(int) ((s >>> 33) % 8)];
         }
         Due.due("record(0, 1, -99, 64)", x.record(0, 1, -99, 64), 64);
-        bytes("record of coins", x, 0, want);
+        Fixture.bytes("record of coins", x, 0, want);
         Due.due("record(1, 2, 7, 1)", x.record(1, 2, 7, 1), 1);
-        bytes("record of stalks", x, 1, x.drawn(2, 7));
+        Fixture.bytes("record of stalks", x, 1, x.drawn(2, 7));
         Due.due("record(1, 2, 7, 0)", x.record(1, 2, 7, 0), 0);
-        bytes("record of none", x, 1);
+        Fixture.bytes("record of none", x, 1);
         long before = x.digest();
         Due.due("record(4, 0, 1, 1)", x.record(4, 0, 1, 1), BAD);
         Due.due("record(-1, 0, 1, 1)", x.record(-1, 0, 1, 1), BAD);
@@ -286,17 +271,17 @@ public final class RowsTest {
         StalkRoom x = new StalkRoom();
         x.caster(false);
         x.caster(true);
-        fill(x, 0, 7, 7, 7);
+        Fixture.fill(x, 0, 7, 7, 7);
         Due.due("off(0, 0)", x.off(0, 0), 1);
         Due.due("asked()", x.asked(), 0);
         // Coins: 125000, 375000, 375000, 125000; the record: 1000000 of 7.
         Due.due("off(0, 1)", x.off(0, 1), 1);
         Due.due("asked()", x.asked(), 125000 + 625000 + 375000 + 125000);
         // 31 and -1 are left out: three count; 333333 each, cut.
-        fill(x, 1, 0, 31, 7, -1, 30);
+        Fixture.fill(x, 1, 0, 31, 7, -1, 30);
         Due.due("off(1, 0)", x.off(1, 0), 1);
         Due.due("asked()", x.asked(), 333333 + 666667 + 333333);
-        fill(x, 2, 31, -1, 127, -128);
+        Fixture.fill(x, 2, 31, -1, 127, -128);
         Due.finding("off, none counts", x, x.off(2, 0), 4);
         x.row(2, 0);
         Due.finding("off, no lines", x, x.off(2, 0), 4);
@@ -317,13 +302,13 @@ public final class RowsTest {
         x.caster(true);
         x.caster(false);
         Due.finding("nearest, missing", x, x.nearest(0), 1);
-        fill(x, 0, 31, -1);
+        Fixture.fill(x, 0, 31, -1);
         Due.finding("nearest, none counts", x, x.nearest(0), 4);
-        fill(x, 0, 6, 7, 7, 7, 8, 8, 8, 9);
+        Fixture.fill(x, 0, 6, 7, 7, 7, 8, 8, 8, 9);
         Due.due("nearest, coins", x.nearest(0), 1);
-        fill(x, 0, 7, 7, 7, 7, 7, 7, 7);
+        Fixture.fill(x, 0, 7, 7, 7, 7, 7, 7, 7);
         Due.due("nearest, sevens", x.nearest(0), 3);
-        fill(x, 0, 30);
+        Fixture.fill(x, 0, 30);
         Due.due("asked() is not told by nearest", x.asked(), 0);
         // Each is off by all of its parts and a million; the stalks' parts are cut, so less.
         Due.due("nearest, none near", x.nearest(0), 0);
@@ -340,7 +325,7 @@ public final class RowsTest {
         x.stalks(8, 2, false);
         x.record(0, 0, 17, 64);
         Due.due("lost(0, 0)", x.lost(0, 0), 0);
-        fill(x, 1, 0);
+        Fixture.fill(x, 1, 0);
         // By 2 from 5 or 4 stalks only 0 comes, so none is lost.
         Due.due("lost(1, 2)", x.lost(1, 2), 0);
         // Of 8 stalks 27 of 35 lines are 0 (7 of 8 with the thumb); of 7 always 4 are left, then 2 at most, then 0.
@@ -356,7 +341,7 @@ public final class RowsTest {
         Due.due("lost(2, 6), cast with 11", x.lost(2, 6), 8);
         Due.finding("lost, coins", x, x.lost(1, 1), 3);
         Due.finding("lost, kind 0", x, x.lost(1, 3), 3);
-        fill(x, 2, 31);
+        Fixture.fill(x, 2, 31);
         Due.finding("lost, UNLIKE ahead of NOUGHT", x, x.lost(2, 1), 3);
         Due.finding("lost, none counts", x, x.lost(2, 0), 4);
         Due.finding("lost, NOTHING ahead of UNLIKE", x, x.lost(3, 1), 1);
