@@ -364,8 +364,7 @@ public final class StalkRoom {
         if (!row.partsInto(otherParts)) {
             return found(NOUGHT);
         }
-        one.weigh(odds);
-        lastAsked = weighedDiffer();
+        lastAsked = offOf(one);
         return 1;
     }
 
@@ -386,8 +385,7 @@ public final class StalkRoom {
         int best = 0;
         int least = MOST_OFF + 1;
         for (int c = 0; c < casterCount; c++) {
-            casters[c].weigh(odds);
-            int off = weighedDiffer();
+            int off = offOf(casterAt(c));
             if (off < least) {
                 least = off;
                 best = c;
@@ -433,8 +431,7 @@ public final class StalkRoom {
         }
         two.weigh(odds);
         odds.partsInto(otherParts);
-        one.weigh(odds);
-        int differ = weighedDiffer();
+        int differ = offOf(one);
         if (differ <= 0) {
             return NONE;
         }
@@ -480,7 +477,7 @@ public final class StalkRoom {
         long h = 17;
         for (int c = 0; c < casterCount; c++) {
             for (int what = 0; what <= 3; what++) {
-                h = 31 * h + casters[c].tell(what);
+                h = 31 * h + told(c, what);
             }
         }
         for (int f = 0; f < FIGURES; f++) {
@@ -548,6 +545,15 @@ public final class StalkRoom {
             fractionUpper = up / divisor;
             fractionLower = low / divisor;
         }
+    }
+
+    /** How much the parts of a caster differ from otherParts, over all lines. */
+    private int offOf(Caster one) {
+        if (one == null) {
+            return MOST_OFF;
+        }
+        one.weigh(odds);
+        return weighedDiffer();
     }
 
     /** How much the parts of what was weighed last differ from otherParts, over all lines. */
@@ -948,7 +954,7 @@ public final class StalkRoom {
             if (before[y] == UNSEEN) {
                 return NONE;
             }
-            for (int at = y; at != x && actCount < NUMBERS; at = before[at]) {
+            for (int at = y; at != x && isNumber(at) && actCount < NUMBERS; at = before[at]) {
                 acts[actCount] = metBy[at];
                 actCount++;
             }
